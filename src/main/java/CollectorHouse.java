@@ -176,6 +176,7 @@ public final class CollectorHouse {
         Thing had = store.changeReference(thing, i, has);
         collector.noteReference(thing, i, has);
         collector.noteChange(had, has);
+        collector.noteFewer(had);
         return numberOf(had);
     }
 
@@ -233,9 +234,7 @@ public final class CollectorHouse {
             throw new UnsupportedOperationException();
         }
         store.changeHolds(thing, on ? 1 : -1);
-        if (!on) {
-            collector.noteChange(thing, thing);
-        }
+        collector.noteFewer(thing);
         return thing.holds;
     }
 
@@ -516,6 +515,7 @@ public final class CollectorHouse {
     private Thing changeRoot(Collector collector, int i, Thing has) {
         Thing had = store.changeRoot(i, has);
         collector.noteChange(had, has);
+        collector.noteFewer(had);
         return had;
     }
 
@@ -640,6 +640,9 @@ public final class CollectorHouse {
         }
 
         Thing changeRoot(int i, Thing has) {
+            if (i < 0 || i >= SLOTS) {
+                return null;
+            }
             Thing had = thingAt(roots[i]);
             roots[i] = numberOf(has);
             changeCounts(had, has);
@@ -871,8 +874,12 @@ public final class CollectorHouse {
         /** Answers how many words got free. */
         abstract int cleanAll();
 
-        /** A ROOT or a REFERENCE that had the one has the other now; or HOLDS of one (given twice) are fewer. */
+        /** A ROOT or a REFERENCE that had the one has the other now; each may be null. */
         void noteChange(Thing had, Thing has) {
+        }
+
+        /** One (or null) that may count less now. */
+        void noteFewer(Thing thing) {
         }
 
         void noteReference(Thing thing, int i, Thing has) {
@@ -1393,9 +1400,9 @@ public final class CollectorHouse {
 
         /** What one that goes referred to goes ahead of its next word: a stack, as such a chain may be long. */
         @Override
-        void noteChange(Thing had, Thing has) {
+        void noteFewer(Thing thing) {
             depth = 0;
-            fallIfUncounted(had);
+            fallIfUncounted(thing);
             for (int turn = 0; depth > 0 && turn < MOST_TURNS; turn++) {
                 Thing last = going[depth - 1];
                 int i = nextWord[depth - 1];
@@ -1602,6 +1609,16 @@ public final class CollectorHouse {
             return region >= 0 && region < MOST_REGIONS && tops[region] + words <= size;
         }
 
+        private int topOf(int region) {
+            return region >= 0 && region < MOST_REGIONS ? tops[region] : 0;
+        }
+
+        private void raiseTop(int region, int words) {
+            if (region >= 0 && region < MOST_REGIONS) {
+                tops[region] += words;
+            }
+        }
+
         private static int orElse(int region, int other) {
             return region == NOTHING ? other : region;
         }
@@ -1617,7 +1634,7 @@ public final class CollectorHouse {
 
         @Override
         void noteMade(Thing thing) {
-            tops[present] += thing.size;
+            raiseTop(present, thing.size);
         }
 
         @Override
@@ -1633,7 +1650,7 @@ public final class CollectorHouse {
             }
             if (target != NOTHING) {
                 present = target;
-            } else if (tops[present] == 0) {
+            } else if (topOf(present) == 0) {
                 present = orElse(leastEmpty(), present);
             }
             return free;
@@ -1663,11 +1680,10 @@ public final class CollectorHouse {
 
         private void chooseLeaving() {
             for (int r = 0; r < MOST_REGIONS; r++) {
-                if (leaving[r] * PERCENT > share * size) {
+                if (r == present || leaving[r] * PERCENT > share * size) {
                     leaving[r] = 0;
                 }
             }
-            leaving[present] = 0;
             for (int n = 0; n < store.given; n++) {
                 Thing thing = store.thingAt(n);
                 if (thing != null && thing.holds > 0) {
@@ -1689,7 +1705,7 @@ public final class CollectorHouse {
         /** Answers whether all of it found a place. */
         private boolean moveAll(int region) {
             int at = region * size;
-            int end = at + tops[region];
+            int end = at + topOf(region);
             while (at < end) {
                 Thing thing = store.thingFrom(at);
                 if (thing == null) {
@@ -1701,8 +1717,10 @@ public final class CollectorHouse {
                     }
                 }
             }
-            leaving[region] = 0;
-            tops[region] = 0;
+            if (region >= 0 && region < MOST_REGIONS) {
+                leaving[region] = 0;
+                tops[region] = 0;
+            }
             return true;
         }
 
@@ -1712,8 +1730,8 @@ public final class CollectorHouse {
                 return false;
             }
             target = to;
-            store.move(thing, to * size + tops[to]);
-            tops[to] += thing.size;
+            store.move(thing, to * size + topOf(to));
+            raiseTop(to, thing.size);
             return true;
         }
 
@@ -1730,7 +1748,7 @@ public final class CollectorHouse {
 
         @Override
         int topPlace() {
-            return present * size + tops[present];
+            return present * size + topOf(present);
         }
 
         @Override
