@@ -1431,7 +1431,6 @@ public final class CollectorHouse {
             if (thing.wished) {
                 store.grant(thing);
             } else if (depth < MOST_OBJECTS) {
-                store.clearWeak(thing);
                 going[depth] = thing;
                 nextWord[depth] = 0;
                 depth++;
@@ -1592,12 +1591,9 @@ public final class CollectorHouse {
             if (words > size) {
                 return NOTHING;
             }
-            if (!fits(present, words)) {
-                if (specials() >= 2) {
-                    present = leastEmpty();
-                } else {
-                    cleanAll();
-                }
+            // The last EMPTY one is left for a cleaning to move to.
+            if (!fits(present, words) && specials() < 2) {
+                cleanAll();
             }
             if (!fits(present, words)) {
                 present = orElse(leastEmpty(), present);

@@ -5,6 +5,7 @@ public final class AgesTest {
         minorAndMajor(runs);
         promoted(runs);
         oldTooFull(runs);
+        justEnough(runs);
         largeOnes(runs);
         majorAlone(runs);
         wishes(runs);
@@ -70,6 +71,28 @@ public final class AgesTest {
             make 2 9 = -1                    # 16 words in young, 3 free in old; 4 of 1 go
             count 5 = 8; count 7 = 16; count 13 = 9
             clean = 0; count 5 = 10
+            """);
+    }
+
+    private static void justEnough(Runs runs) {
+        runs.run("old has as many words as would come", Runs.KINDS, """
+            policy ages 16 16 1 4 = 48
+            make 1 0 = 0; make 1 1 = 1; make 1 2 = 2; make 1 3 = 3; count 11 = 32
+            make 2 4 = 4; count 5 = 1; count 13 = 16; about 3 0 = 12; about 4 0 = 32
+            clean = 0; count 5 = 3           # a major one; none behind it, as there is no word for 4, but once more
+            about 4 0 = 32
+            """);
+        runs.run("one word too many", Runs.KINDS, """
+            policy ages 17 16 1 4 = 50
+            make 2 0 = 0; make 1 1 = 1; make 1 2 = 2; make 1 3 = 3; make 1 4 = 4; count 11 = 33
+            make 2 5 = -1; count 5 = 3; count 13 = 0
+            root 0 -1 = 0; make 2 5 = 5; count 5 = 5; count 13 = 16; about 5 0 = 33
+            """);
+        runs.run("up to the last word of old", Runs.KINDS, """
+            policy ages 16 18 1 4 = 50
+            row false 8 0 = 0; row false 8 1 = 1; about 1 0 = 9; count 13 = 18; count 5 = 0
+            row false 8 2 = -1; count 5 = 1; root 0 -1 = 0
+            row false 8 2 = 2; about 1 0 = 0; about 2 0 = 9; count 13 = 18; count 5 = 2; count 12 = 0
             """);
     }
 

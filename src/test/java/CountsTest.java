@@ -64,8 +64,8 @@ public final class CountsTest {
     private static void cleaning(Runs runs) {
         runs.run("a cleaning takes rings", Runs.KINDS, """
             policy counts 20 first = 20
-            make 0 0 = 0; make 0 1 = 1; make 2 2 = 2; link 0 0 1 = -1; link 1 0 0 = -1; link 1 1 2 = -1
-            root 0 -1 = 0; root 1 -1 = 1; about 2 4 = 2; count 2 = 3; count 7 = 0
+            make 0 0 = 0; make 0 1 = 1; make 2 2 = 2; link 0 0 1 = -1; link 1 1 0 = -1; link 1 0 2 = -1
+            link 0 1 2 = -1; root 0 -1 = 0; root 1 -1 = 1; about 2 4 = 3; count 12 = 0; count 2 = 3; count 7 = 0
             clean = 6; about 2 4 = 1; count 2 = 1; count 7 = 6; count 5 = 1
             make 0 0 = 3; link 3 0 3 = -1; wish 3 = 1; weak 0 3 = -1; root 0 -1 = 3; count 9 = 0
             clean = 0; count 9 = 1; about 3 4 = 2; strong 0 5 = -1; granted 0 = 3; about 3 4 = 2

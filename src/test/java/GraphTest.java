@@ -50,7 +50,20 @@ public final class GraphTest {
                 new GraphTest(runs, policy, seed).play();
             }
         }
+        tooManyCalls(runs);
         runs.finish();
+    }
+
+    /** What is answered behind the 512th call is free, but the machine does not throw. */
+    private static void tooManyCalls(Runs runs) {
+        for (String policy : POLICIES) {
+            GraphTest test = new GraphTest(runs, policy, 0);
+            for (int i = 0; i < 1200; i++) {
+                test.call("row true 0 " + i % 16);
+                test.call("wish " + i);
+            }
+            test.call("clean");
+        }
     }
 
     private void play() {

@@ -6,6 +6,7 @@ public final class RegionsTest {
         moving(runs);
         noEmptyLeft(runs);
         heldAndShare(runs);
+        later(runs);
         nothingLeft(runs);
         runs.finish();
     }
@@ -95,6 +96,21 @@ public final class RegionsTest {
             policy regions 96 20 40 = 80
             make 1 0 = 0; make 1 1 = 1; make 2 2 = 2; row false 10 3 = 3; make 2 4 = 4; row false 10 5 = 5
             root 3 -1 = 3; clean = 11; about 0 0 = 0; about 3 0 = !NoSuchElementException; count 6 = 0; count 13 = 1
+            """);
+    }
+
+    private static void later(Runs runs) {
+        runs.run("what could not move may move later", Runs.KINDS, """
+            policy regions 64 16 50 = 64
+            row false 7 0 = 0; row false 7 1 = 1; row false 15 2 = 2; row false 15 3 = 3; row false 15 4 = 4
+            count 13 = 3; count 10 = 0; count 5 = 1; root 0 -1 = 0
+            clean = 8; count 6 = 0; about 1 0 = 8; root 2 -1 = 2
+            clean = 16; about 1 0 = 16; count 6 = 8; count 13 = 1; count 10 = 1; count 12 = 0
+            """);
+        runs.run("the first of all is held", Runs.KINDS, """
+            policy regions 64 16 50 = 64
+            row false 7 0 = 0; row false 7 1 = 1; make 2 2 = 2; count 13 = 1; hold 0 true = 1; root 1 -1 = 1
+            clean = 8; about 0 0 = 0; count 6 = 0; hold 0 false = 0; clean = 0; about 0 0 = 32
             """);
     }
 

@@ -4,7 +4,7 @@ public final class SlideTest {
         Runs runs = new Runs();
         runs.run("slid to the beginning", Runs.KINDS, """
             policy slide 20 = 20
-            count 11 = 0; make 0 0 = 0; make 1 1 = 1; make 0 2 = 2; make 2 3 = 3; count 11 = 11
+            count 11 = 0; count 12 = 0; count 13 = 0; count 10 = 0; make 0 0 = 0; make 1 1 = 1; make 0 2 = 2; make 2 3 = 3; count 11 = 11
             put 1 1 55 = 0; put 1 2 -1 = 0; link 1 0 2 = -1; link 2 0 3 = -1; link 2 1 2 = -1
             root 0 -1 = 0; clean = 3
             about 1 0 = 0; about 2 0 = 4; about 3 0 = 7; count 11 = 8; count 6 = 8; count 7 = 3; count 5 = 1

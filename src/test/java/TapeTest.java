@@ -38,6 +38,10 @@ public final class TapeTest {
             """);
         // "slid", "e 16", blanks: the highest byte of each int is the first.
         runs.run("bytes in order", "feed 1936484708 1696608566 538976288 538976288 538976288 = 20; heap = 16; count 0 = 0");
+        // Behind the end there is a blank, but not of the tape.
+        runs.run("the length, if something lacks", """
+            feed 1936484708 1696608566 538976288 538976288 538976288 = 20; end 5 = 5; heap = -6
+            """);
         // What is cut off by end does not come back.
         runs.run("end forgets", """
             feed 1936484708 1696608566 538976288 538976288 538976288 = 20
