@@ -224,6 +224,14 @@ public final class AgesTest {
             root 1 -1 = 23; clean = 0; about 24 0 = 3000; about 0 0 = 4439; get 0 59 = 24; get 24 34 = 23; count 11 = 4500
             link 0 59 0 = 24; get 0 59 = 0; clean = 0; about 0 0 = 2939; get 0 59 = 0; count 11 = 3000
             """);
+        StringBuilder second = new StringBuilder("policy ages 1500 1500 7 4 = 4500; clean = 0; count 11 = 3000\n");
+        for (int n = 0; n < 24; n++) {
+            second.append("row false 60 ").append(n % 16).append(" = ").append(n).append('\n');
+        }
+        runs.run("made up to the last word of all", second.toString(), """
+            row false 35 0 = 24; about 24 0 = 4464; put 24 34 7 = 0; get 24 34 = 7; count 11 = 4500; count 5 = 2
+            row false 0 1 = 25; count 5 = 3; get 24 34 = 7; about 24 0 = 1500
+            """);
         StringBuilder old = new StringBuilder("policy ages 16 1500 7 4 = 1532\n");
         for (int n = 0; n < 24; n++) {
             old.append("row false 60 0 = ").append(n).append("; hold ").append(n).append(" true = 1\n");

@@ -23,6 +23,12 @@ public final class FeedTest {
             feed 1936484708 1696608560 538976288 538976288 538976288 = 20; heap = -7; count 0 = 0
             feed 1936484708 1696608566 538976288 538976288 538976288 = 20; count 0 = 20; heap = 16
             """);
+        runs.run("a refused feed changes nothing", Runs.KINDS, "policy sweep 20 first = 20; make 1 0 = 0; put 0 1 5 = 0;"
+            + BLANKS + "20; end 1 = 1;" + BLANKS + "21;" + BLANKS + "41;" + BLANKS + "61;" + BLANKS + "81", """
+
+            feed 1 2 3 4 5 = !IndexOutOfBoundsException; count 0 = 81; count 1 = 4; count 2 = 1; count 4 = 1; get 0 1 = 5
+            heap = -82
+            """);
         runs.run("no other call reads it", Runs.KINDS, """
             policy slide 20 = 20; feed 0 0 0 0 0 = 20; make 0 0 = 0; clean = 0; kind 0 0 = 4; count 0 = 20
             """);

@@ -246,7 +246,7 @@ public final class HeapTest {
             """);
         runs.run("the present half", """
             policy halves 16 = 32; row false 3 0 = 0; clean = 0; count 11 = 20; policy halves 16 = 32; count 11 = 0
-            row false 15 0 = 0; about 0 0 = 0; count 5 = 0
+            row false 15 0 = 0; about 0 0 = 0; count 5 = 0; row false 0 1 = -1; about 0 0 = 16; count 11 = 32
             """);
         runs.run("dirty CARDS, TOPS and AGES", Runs.KINDS, """
             policy ages 16 16 2 4 = 48; row true 8 0 = 0; make 2 1 = 1; link 0 0 1 = -1; count 10 = 1; clean = 0

@@ -38,7 +38,9 @@ public final class LinkTest {
             "link 1 1 4 = !NoSuchElementException", "link 1 9 4 = !NoSuchElementException",
             "link 1 3 0 = !IndexOutOfBoundsException", "link 0 2 -1 = !IndexOutOfBoundsException",
             "link 0 -1 8 = !IndexOutOfBoundsException", "link 2 0 0 = !IndexOutOfBoundsException",
-            "link 1 1 0 = !ClassCastException", "link 1 2 -1 = !ClassCastException", "link 3 0 8 = !ClassCastException");
+            "link 1 1 0 = !ClassCastException", "link 1 2 -1 = !ClassCastException", "link 1 2 8 = !ClassCastException",
+            "link 3 19 4 = !NoSuchElementException", "link 3 19 10 = !NoSuchElementException",
+            "link 3 20 9 = !IndexOutOfBoundsException", "link 3 -1 9 = !IndexOutOfBoundsException");
         runs.finish();
     }
 }

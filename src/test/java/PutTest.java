@@ -38,7 +38,8 @@ public final class PutTest {
             "put -1 1 0 = !NoSuchElementException", "put 1 3 0 = !IndexOutOfBoundsException",
             "put 1 -1 0 = !IndexOutOfBoundsException", "put 2 0 0 = !IndexOutOfBoundsException",
             "put 3 20 0 = !IndexOutOfBoundsException", "put 1 0 0 = !ClassCastException",
-            "put 0 1 5 = !ClassCastException", "put 6 7 5 = !ClassCastException");
+            "put 0 1 5 = !ClassCastException", "put 6 7 5 = !ClassCastException",
+            "put 3 7 5 = !ClassCastException");
         runs.finish();
     }
 }

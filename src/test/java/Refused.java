@@ -11,13 +11,14 @@ final class Refused {
         "steps 60 best 1 news", "regions 120 24 40"
     };
 
-    // 4 is not reached (by counts it is gone), 5 is in the row of wishes, 8 is reached by 6 alone, 10 was never made;
-    // steps are marking, with one step done; there is a text on the tape.
+    // 3 is held, and by ages it is old and has a dirty card; 4 is not reached (by counts it is gone), 5 is in the row of
+    // wishes, 8 is reached by 6 alone, 10 was never made; steps are marking, with one step done; there is a text on the
+    // tape.
     private static final String[] SETUP = {
-        "kind 2 3", "kind 3 1", "kind 0 0", "kind 8 255", "make 0 0", "make 1 1", "make 2 2", "row false 20 3",
+        "kind 2 3", "kind 3 1", "kind 0 0", "kind 8 255", "make 0 0", "make 1 1", "make 2 2", "row true 20 3",
         "make 0 4", "make 0 5", "wish 5", "root 5 -1", "clean", "link 0 0 1", "put 1 1 77", "weak 0 1", "weak 1 4",
         "wish 1", "hold 3 true", "root 4 -1", "make 3 6", "make 2 7", "make 2 8", "link 6 0 8", "root 8 -1",
-        "make 0 9", "feed 1936484708 1696609075 0 0 0", "end 8"
+        "link 3 7 6", "make 0 9", "feed 1936484708 1696609075 0 0 0", "end 8"
     };
     private static final int LAST_NUMBER = 9;
 
@@ -32,6 +33,7 @@ final class Refused {
     }
 
     static void in(Runs runs, String policy, String... calls) {
+        checkSetUp(runs, policy);
         String before = told(setUp(policy));
         for (String due : calls) {
             String call = due.substring(0, due.indexOf(" = "));
@@ -52,7 +54,7 @@ final class Refused {
         }
     }
 
-    private static CollectorHouse setUp(String policy) {
+    static CollectorHouse setUp(String policy) {
         CollectorHouse house = new CollectorHouse();
         Runs.feed(house, policy);
         house.heap();
@@ -60,6 +62,20 @@ final class Refused {
             Runs.answer(house, call);
         }
         return house;
+    }
+
+    /** A house in which less is going on would hide changes. */
+    private static void checkSetUp(Runs runs, String policy) {
+        CollectorHouse house = setUp(policy);
+        runs.expect(policy + ": objects made", Runs.answer(house, "count 4"), String.valueOf(LAST_NUMBER + 1));
+        runs.expect(policy + ": wishes", Runs.answer(house, "count 9"), "1");
+        runs.expect(policy + ": bytes", Runs.answer(house, "count 0"), "8");
+        runs.expect(policy + ": marking", Runs.answer(house, "count 12"), policy.startsWith("steps") ? "1" : "0");
+        runs.expect(policy + ": held", Runs.answer(house, "about 3 6"), policy.startsWith("halves") ? "0" : "1");
+        runs.expect(policy + ": not reached", Runs.answer(house, "about 4 0"), "!NoSuchElementException");
+        if (policy.startsWith("ages")) {
+            runs.expect(policy + ": dirty cards", Runs.answer(house, "count 10"), "1");
+        }
     }
 
     /** Everything that a house tells, then what it answers to calls that change it; some 350 calls. */
