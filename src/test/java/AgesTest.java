@@ -198,6 +198,11 @@ public final class AgesTest {
             make 1 6 = 4; about 4 0 = 32; count 5 = 1        # behind TOP, which stayed
             make 2 7 = 5; count 5 = 2; about 1 0 = 36; about 4 0 = 40; about 5 0 = 44
             """);
+        runs.run("nothing of YOUNG is KEPT: its words are no room up to the next minor one", Runs.KINDS, """
+            policy ages 16 20 7 4 = 52; row false 7 0 = 0; row false 6 1 = 1; root 0 -1 = 0; root 1 -1 = 1
+            row false 20 2 = -1; count 5 = 1; count 7 = 15; count 2 = 0; count 11 = 35
+            make 0 3 = 2; count 5 = 2; about 2 0 = 36; count 11 = 39
+            """);
         runs.run("wishes of YOUNG ones in a major one", Runs.KINDS, """
             policy ages 16 20 7 4 = 52; make 1 0 = 0; wish 0 = 1; root 0 -1 = 0; row false 19 4 = 1; row false 8 5 = -1
             count 9 = 1; about 0 0 = 20; count 7 = 0
