@@ -111,6 +111,20 @@ public final class AgesTest {
             link 1 1 2 = -1; count 10 = 1; link 0 0 2 = -1; count 10 = 1     # at 63 and 1
             link 1 2 2 = -1; count 10 = 2; link 1 59 2 = -1; count 10 = 2    # at 64 and 121
             """);
+        runs.run("the last CARD ends with OLD: words of YOUNG are in none", Runs.KINDS, """
+            policy ages 16 18 7 4 = 50; row true 17 0 = 0; make 0 1 = 1; make 2 2 = 2; make 2 3 = 3; about 1 0 = 18
+            link 1 0 2 = -1; link 0 16 3 = -1; count 10 = 1; root 1 -1 = 1; root 2 -1 = 2; root 3 -1 = 3
+            row false 7 4 = 4; row false 3 5 = 5; count 5 = 1; count 7 = 4; count 2 = 4; about 3 0 = 42; about 5 0 = 43
+            """);
+        runs.run("OLD is full, and a YOUNG one stands right behind it", Runs.KINDS, """
+            policy ages 16 18 7 4 = 50; row true 17 0 = 0; make 2 1 = 1; about 1 0 = 18; clean = 0; count 10 = 0; clean = 0
+            about 1 0 = 18; count 10 = 0; link 0 16 1 = -1; count 10 = 1; clean = 0; count 10 = 1
+            """);
+        runs.run("an int behind a row of REFERENCES is none", Runs.KINDS, """
+            policy ages 16 40 7 4 = 72; row true 8 0 = 0; row false 8 1 = 1; row false 6 2 = 2; row false 6 3 = 3; put 1 0 2 = 0
+            link 0 7 1 = -1; count 10 = 0; clean = 0; count 10 = 0; link 0 7 3 = 1; link 0 7 1 = 3; count 10 = 1
+            root 2 -1 = 2; row false 6 4 = 4; count 7 = 7; count 2 = 4; count 10 = 0
+            """);
         runs.run("the last CARD has fewer words", Runs.KINDS, """
             policy ages 16 16 7 5 = 48; row true 15 0 = 0; make 2 1 = 1
             link 0 14 1 = -1; count 10 = 1; link 0 13 1 = -1; count 10 = 2; link 0 9 1 = -1; count 10 = 2    # 15, 14, 10

@@ -55,6 +55,11 @@ public final class CountsTest {
         runs.run("falls to 0 by root, NOTHING", Runs.KINDS, two, "root 0 -1 = 0" + gone + "1");
         runs.run("falls to 0 by root, another", Runs.KINDS, two, "root 0 1 = 0" + gone + "2");
         runs.run("falls to 0 by strong", Runs.KINDS, two, "strong 1 0 = 1" + gone + "2");
+        runs.run("what stands behind a row of REFERENCES counts as it did", Runs.KINDS, """
+            policy counts 20 first = 20; make 2 0 = 0; row true 2 1 = 1; row false 2 2 = 2; put 2 0 0 = 0; about 2 0 = 4
+            root 1 -1 = 1; count 7 = 3; about 2 4 = 1; about 0 4 = 1; row true 2 1 = 3; about 3 0 = 1; link 3 0 3 = -1
+            root 1 -1 = 3; clean = 3; about 2 4 = 1; about 0 4 = 1
+            """);
         runs.run("falls to 0 by make", Runs.KINDS, two, "make 2 0 = 2; count 2 = 2; count 7 = 1; strong 0 9 = -1");
         runs.run("falls to 0 by row", Runs.KINDS, two, "row true 3 0 = 2; count 2 = 2; count 7 = 1; strong 0 9 = -1");
         runs.run("falls to 0 by link, NOTHING", Runs.KINDS, two, "link 1 1 0 = -1; root 0 -1 = 0; link 1 1 -1 = 0" + gone + "1");
