@@ -123,9 +123,11 @@ public final class ReadmeTest {
             }
         } else {
             String[] ends = range.split(",")[0].split(" \\.\\. ");
+            int least = Integer.parseInt(ends[0]);
+            int most = Integer.parseInt(ends[1]);
             for (String line : PARTS) {
                 if (line.startsWith(part + " ")) {
-                    range(runs, line.substring(part.length() + 1), Integer.parseInt(ends[0]), Integer.parseInt(ends[1]));
+                    range(runs, line.substring(part.length() + 1), least, most);
                 }
             }
         }
@@ -154,7 +156,8 @@ public final class ReadmeTest {
             String call = plain(cells[0]);
             String arguments = call.substring(call.indexOf('(') + 1, call.indexOf(')'));
             int count = arguments.isEmpty() ? 0 : arguments.split(",").length;
-            told.add(call.substring(0, call.indexOf('(')) + "/" + count + ": " + (cells.length > 2 ? plain(cells[2]) : ""));
+            String thrown = cells.length > 2 ? plain(cells[2]) : "";
+            told.add(call.substring(0, call.indexOf('(')) + "/" + count + ": " + thrown);
         }
         Set<String> there = new TreeSet<>();
         for (Method method : CollectorHouse.class.getDeclaredMethods()) {
