@@ -12,8 +12,9 @@ import java.util.TreeMap;
 import java.util.TreeSet;
 
 /**
- * The document told a second time, apart from the class and as plainly as may be: objects that refer to objects, no row
- * of words, everything that can be found by looking is looked for anew. SecondTest holds the class against it.
+ * The document told a second time, with no code of the class and as plainly as may be: objects that refer to objects,
+ * no row of words, everything that can be found by looking is looked for anew. SecondTest holds the class against it. It
+ * reads the document as the class does where that leaves room: it finds slips, not misreadings.
  */
 final class SecondHouse {
     private static final int SLOTS = 16;

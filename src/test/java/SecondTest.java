@@ -4,7 +4,7 @@ import java.util.Random;
 
 /**
  * Runs of any calls, up to the 512th, with heaps of all policies that follow each other: each answer is the one that
- * the second house gives, which was written from the document, apart from the class.
+ * the second house gives.
  */
 public final class SecondTest {
     private static final int RUNS = 700;
